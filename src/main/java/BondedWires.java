@@ -605,7 +605,6 @@ public final class BondedWires {
         private final int[][] heights = new int[MOST_WIRES][MOST_SPAN + 1];
         /** For each WIRE those IN THE WAY of it, as bits. */
         private final int[] blockers = new int[MOST_WIRES];
-        /** For each WIRE those that it is IN THE WAY of, as bits. */
         private final int[] blocked = new int[MOST_WIRES];
         /** Not all changes are followed by a question who is IN THE WAY, and that is dear to find. */
         private boolean blockersKnown;
@@ -769,9 +768,10 @@ public final class BondedWires {
             return blockers[i];
         }
 
-        int blockedBy(int k) {
+        /** For each WIRE those that it is IN THE WAY of, as bits; only to be looked at. */
+        int[] blockedByEach() {
             findBlockers();
-            return blocked[k];
+            return blocked;
         }
 
         private void findBlockers() {
@@ -834,9 +834,10 @@ public final class BondedWires {
          * they were left out in THE ORDER.
          */
         int arrange() {
+            int[] blocked = view.blockedByEach();
             int remaining = (1 << bench.wires) - 1;
             for (int step = 0; step < bench.wires; step++) {
-                int i = lowestFree(remaining);
+                int i = lowestFree(remaining, blocked);
                 if (i < 0) {
                     return remaining;
                 }
@@ -847,9 +848,9 @@ public final class BondedWires {
         }
 
         /** The lowest of these WIRES that is IN THE WAY of no other one of them; -1 if none is so. */
-        private int lowestFree(int remaining) {
+        private int lowestFree(int remaining, int[] blocked) {
             for (int i = 0; i < bench.wires; i++) {
-                if ((remaining & 1 << i) != 0 && (view.blockedBy(i) & remaining) == 0) {
+                if ((remaining & 1 << i) != 0 && (blocked[i] & remaining) == 0) {
                     return i;
                 }
             }
@@ -862,19 +863,20 @@ public final class BondedWires {
         }
 
         int howMany() {
+            int[] blocked = view.blockedByEach();
             int all = (1 << bench.wires) - 1;
             ways[0] = 1;
             for (int first = 1; first <= all; first++) {
-                ways[first] = waysOf(first);
+                ways[first] = waysOf(first, blocked);
             }
             return ways[all];
         }
 
         /** The last of these WIRES must have all that it is IN THE WAY of ahead of it. */
-        private int waysOf(int first) {
+        private int waysOf(int first, int[] blocked) {
             int sum = 0;
             for (int last = 0; last < bench.wires; last++) {
-                if ((first & 1 << last) != 0 && (view.blockedBy(last) & ~first) == 0) {
+                if ((first & 1 << last) != 0 && (blocked[last] & ~first) == 0) {
                     sum += ways[first & ~(1 << last)];
                 }
             }
@@ -889,6 +891,8 @@ public final class BondedWires {
         private final int[] trial = new int[MOST_SPAN + 1];
         /** For each other WIRE the ROWS (bits) at which it is close; a LOOP does not change that. */
         private final long[] closeRows = new long[MOST_WIRES];
+        /** Those IN THE WAY of the WIRE; a LOOP leaves both its ends, and so these, as they are. */
+        private int blockers;
         private int shape;
         private int peak;
 
@@ -900,6 +904,7 @@ public final class BondedWires {
         /** Whether there is one; shape and peak are its own then. */
         boolean find(int i) {
             findCloseRows(i);
+            blockers = view.blockersOf(i);
             int ownShape = bench.numberOf(i, SHAPE);
             int ownPeak = bench.numberOf(i, PEAK);
             for (int far = 0; far < MOST_PEAK; far++) {
@@ -960,9 +965,8 @@ public final class BondedWires {
             return false;
         }
 
-        /** A LOOP leaves both ends of i as they are, so who is IN THE WAY of i stays the same. */
         private boolean isMutual(int i, int k) {
-            return (view.blockersOf(i) & 1 << k) != 0 && view.isInTheWay(i, trial, k);
+            return (blockers & 1 << k) != 0 && view.isInTheWay(i, trial, k);
         }
     }
 
