@@ -426,6 +426,39 @@ final class BondedBoundaryTests extends Boundary {
         due("as far as GAP", x.loop(0), 1);
     }
 
+    /** Eight apart at the fingers, which is out of the tool's way, but less than GAP. */
+    void promise20NearAtTheFingersAloneIsMendedByNone() {
+        loopIs("s8;g9;t1;w0,0,0,0,1;w60,0,8,0,1;", NONE);
+        loopIs("s8;g9;t1;w0,0,0,0,1;w60,0,9,0,1;", 1);
+        loopIs("s40;g9;t1;w0,0,0,0,1;w60,0,8,0,1;", NONE);
+        loopIs("s40;g9;t1;w0,0,0,0,1;w60,0,9,0,1;", 1);
+    }
+
+    /** With GAP 4 they are close at rows 19, 20, 21; there a STEEP one with PEAK 30 is 21, 20, 19 high. */
+    void promise20NearAtOneOfSeveralRowsIsNotMended() {
+        for (int height = 19; height <= 21; height++) {
+            loopIs("s40;g4;h1;t1;w0,0,60,2,30;w60,0,0,0," + height + ";", 30);
+        }
+        loopIs("s40;g4;h1;t1;w0,0,60,2,30;w60,0,0,0,18;", 230);
+        loopIs("s40;g4;h1;t1;w0,0,60,2,30;w60,0,0,0,22;", 230);
+    }
+
+    /** The wire to be mended stands at each place among the others. */
+    void promise20OfEachOfEightWires() {
+        int[] heights = {20, 13, 19, 21, 12, 14, 18};
+        for (int at = 0; at <= 7; at++) {
+            StringBuilder text = new StringBuilder("s40;g1;h1;t1;");
+            for (int k = 0; k < 7; k++) {
+                if (k == at) text.append("w0,0,60,0,20;");
+                text.append("w60,0,0,0," + heights[k] + ";");
+            }
+            laid(at == 7 ? text + "w0,0,60,0,20;" : text.toString());
+            due("loop(" + at + ")", x.loop(at), 22);
+            due("mend(" + at + ")", x.mend(at), 2);
+            due("its peak", x.wire(at, 4), 22);
+        }
+    }
+
     void promise20MutuallyInTheWay() {
         loopIs("s8;g1;t2;w0,0,0,0,1;w1,0,1,0,1;", NONE);
         loopIs("s8;g1;t1;w0,0,0,0,1;w1,0,1,0,1;", 101);

@@ -77,6 +77,8 @@ final class EyesBoundaryTests extends Boundary {
         due("the highest", x.sees(2, 0, 19), 1 << 8);
         laid("s8;w7,0,0,0,1;w7,1,0,0,1;w7,2,0,0,1;");
         for (int tier = 0; tier <= 2; tier++) due("all three", x.sees(tier, 7, 7), tier == 2 ? 1 : 0);
+        laid("s8;w0,0,0,0,1;w7,0,0,0,1;w19,0,0,0,1;w7,1,0,0,1;w0,2,0,0,1;w19,1,0,0,1;w3,0,0,0,1;");
+        due("several are hidden", x.sees(0, 0, 19), 1 << 3);
     }
 
     void promise22NoWiresAndEight() {

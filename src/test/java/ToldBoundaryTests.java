@@ -60,11 +60,33 @@ final class ToldBoundaryTests extends Boundary {
         due("undo", x.undo(), NO);
     }
 
+    private static final String ONE_TEXT = "s8;t1;g1;w0,0,0,0,9;w4,0,4,0,9;w20,0,20,0,1;";
+    private static final String OTHER_TEXT = "s9;t3;g4;w5,1,9,2,7;w8,2,1,1,3;w30,1,30,0,2;";
+
+    /** Tells them by turns: a letter each, a change each. */
+    private static void byTurns(Trial... objects) {
+        for (int at = 0; at < ONE_TEXT.length(); at++) {
+            for (int o = 0; o < objects.length; o++) objects[o].write((o == 0 ? ONE_TEXT : OTHER_TEXT).charAt(at));
+        }
+        for (Trial each : objects) each.lay();
+        for (int o = 0; o < objects.length; o++) objects[o].shift(3 + o);
+        for (int o = 0; o < objects.length; o++) objects[o].bond(2 * o);
+        for (int o = 0; o < objects.length; o++) objects[o].set(1, 0, 40 + o);
+        for (int o = 0; o < objects.length; o++) objects[o].eye(o, o, 0, 19, 8 + o);
+    }
+
     void promise1SharesNothingWithOtherObjects() {
         Trial ahead = new Trial();
-        Trial busy = busy();
-        busy.writeAll("x");
+        busy().writeAll("x");
         alike("made ahead of a busy one", () -> ahead, Trial::new);
+        due("texts as long as each other", OTHER_TEXT.length(), ONE_TEXT.length());
+        Trial one = new Trial();
+        byTurns(one, new Trial());
+        alike("told by turns with another one", () -> one, () -> {
+            Trial alone = new Trial();
+            byTurns(alone);
+            return alone;
+        });
     }
 
     void promise1AnswersTheLastOf512Calls() {
@@ -658,10 +680,23 @@ final class ToldBoundaryTests extends Boundary {
         changesNothing("a new one", Trial::new, Trial::undo, NO);
         changesNothing("laid", laying(FIRST), Trial::undo, NO);
         changesNothing("laid behind changes", busyAnd(Trial::lay), Trial::undo, NO);
-        changesNothing("all undone", busyAnd(t -> {
-            for (int undone = 0; undone < 6; undone++) t.undo();
-            return 0;
-        }), Trial::undo, NO);
+        changesNothing("all undone", busyAnd(ToldBoundaryTests::undoSix), Trial::undo, NO);
+        changesNothing("all undone that can be, earlier changes stay", () -> {
+            Trial t = laying("s8;t1;w0,0,0,0,1;w30,0,30,0,9;").get();
+            t.bond(1);
+            t.shift(-9);
+            t.limit(0, 9);
+            t.set(0, 0, 60);
+            t.eye(0, 0, 0, 0, 1);
+            for (int v = 1; v <= 6; v++) t.set(1, 2, v);
+            return t.wire(1, 5) == 1 && undoSix(t) == 0 ? t : null;
+        }, Trial::undo, NO);
+    }
+
+    private static int undoSix(Trial t) {
+        int more = 6;
+        for (int undone = 0; undone < 6; undone++) more = t.undo();
+        return more;
     }
 
     void promise9TheSixthCanBeUndoneAndTheSeventhCanNot() {

@@ -62,7 +62,7 @@ final class Trial {
         return this;
     }
 
-    /** WIRES, LIMITS, SHIFT, what is BONDED, and what else can be asked without changing it. */
+    /** WIRES, LIMITS, SHIFT, what is BONDED, and much that follows from these and the SIGHTS. */
     List<Integer> asItIs() {
         List<Integer> all = new ArrayList<>();
         for (int what = 0; what <= 12; what++) all.add(count(what));
@@ -74,7 +74,7 @@ final class Trial {
         return all;
     }
 
-    /** All there is to know of it: as it is, behind each undo, and by laying what its text holds. */
+    /** As it is, behind each undo, and behind laying what its text holds: what it keeps hidden comes up so. */
     List<Integer> toTheBottom() {
         List<Integer> all = new ArrayList<>(asItIs());
         for (int undone = undo(); undone != NO; undone = undo()) {
