@@ -18,7 +18,7 @@ public final class FaceTests {
         "sees/3", "eye/5", "forget/0", "explains/1", "count/1"};
     private static final Set<String> CONSTANTS = Set.of("BAD", "NO", "FULL", "NONE", "ZERO");
     private static final Pattern FORBIDDEN = Pattern.compile(
-            "\\b(import|package|throw|throws|try|catch|synchronized|assert|Exact|Random|Thread|System\\.(?!arraycopy))\\b"
+            "\\b(import|package|throw|throws|try|catch|synchronized|assert|\\w+Exact|Random|Thread|System\\.(?!arraycopy))\\b"
             + "|->|::");
 
     private static void checkMethods(Check check) {
@@ -70,10 +70,23 @@ public final class FaceTests {
         for (Class<?> c : inside) {
             check.holds(c + " is static and not public", Modifier.isStatic(c.getModifiers())
                     && !Modifier.isPublic(c.getModifiers()) && !Modifier.isProtected(c.getModifiers()));
-            for (Field f : c.getDeclaredFields()) {
-                check.holds(f + " is final if it is static", !Modifier.isStatic(f.getModifiers())
-                        || Modifier.isFinal(f.getModifiers()));
+            checkSizes(check, c);
+        }
+        checkSizes(check, BondedWires.class);
+    }
+
+    private static void checkSizes(Check check, Class<?> c) {
+        int fields = 0;
+        for (Field f : c.getDeclaredFields()) {
+            if (Modifier.isStatic(f.getModifiers())) {
+                check.holds(f + " is final, as it is static", Modifier.isFinal(f.getModifiers()));
+            } else {
+                fields++;
             }
+        }
+        check.holds(c + " has some twenty fields at most", fields <= 20);
+        for (Method m : c.getDeclaredMethods()) {
+            check.holds(m + " takes seven parameters at most", m.getParameterCount() <= 7);
         }
     }
 

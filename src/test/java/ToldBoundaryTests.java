@@ -485,6 +485,52 @@ final class ToldBoundaryTests extends Boundary {
         for (int l = 0; l < 3; l++) due("limit", x.count(2 + l), 1);
     }
 
+    /** "numbers have one or two figures": 07 is a number of two figures, and it is 7. */
+    void promise5ANumberMayBeginWith0() {
+        for (int n = 1; n <= 9; n++) {
+            int tier = n % 3;
+            String numbers = "g%1$s;h%1$s;t%1$s;w%1$s,%2$s,%1$s,%2$s,%1$s;";
+            String one = "s8;" + String.format(numbers, "" + n, "" + tier);
+            String two = "s08;" + String.format(numbers, "0" + n, "0" + tier);
+            alike(two + " is as " + one, laidAndWiped(one), laidAndWiped(two));
+            laid(two);
+            for (int what = 0; what < 5; what++) due("wire", x.wire(0, what), what % 2 == 0 ? n : tier);
+            for (int l = 0; l < 3; l++) due("limit " + l, x.count(2 + l), n);
+            due("SPAN", x.count(1), 8);
+        }
+    }
+
+    private static Supplier<Trial> laidAndWiped(String text) {
+        return () -> {
+            Trial made = laying(text).get();
+            made.wipe();
+            return made;
+        };
+    }
+
+    /** "what they are, if a TEXT does not tell them": one that is laid, not one ahead of it or with a FAULT. */
+    void promise5LimitsToldOtherwiseAheadOfATextDoNotCount() {
+        for (int which = 0; which < 3; which++) {
+            String told = "s8;" + "ght".charAt(which) + "7;";
+            laid(told);
+            due("told by the text", x.count(2 + which), 7);
+            x.limit(which, 8);
+            x.writeAll("x");
+            due("a text with a fault tells nothing", x.lay(), NO);
+            due("still", x.count(2 + which), 8);
+            x.wipe();
+            due("the empty text tells nothing", x.lay(), NO);
+            due("still", x.count(2 + which), 8);
+            x.writeAll("s8;" + LOW_WIRE);
+            due("not told", x.lay(), 1);
+            due("as in the brackets", x.count(2 + which), USUAL_LIMIT[which]);
+            due("nothing brings back what it was", x.undo(), NO);
+            due("told anew", x.limit(which, 9), USUAL_LIMIT[which]);
+            due("undone", x.undo(), 0);
+            due("as in the brackets", x.count(2 + which), USUAL_LIMIT[which]);
+        }
+    }
+
     void promise5EachNumberGoesToItsPlace() {
         laid("s8;w11,1,22,2,33;w9,2,8,1,7;");
         int[][] want = {{11, 1, 22, 2, 33}, {9, 2, 8, 1, 7}};
